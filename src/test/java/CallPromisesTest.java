@@ -20,6 +20,8 @@ public final class CallPromisesTest {
         promise9FewMiddles();
         promise9Counts();
         promise9Order();
+        promises5To9FullNetwork();
+        promises5To9EachUndone();
         Due.end("CallPromisesTest");
     }
 
@@ -95,34 +97,103 @@ public final class CallPromisesTest {
         }
     }
 
-    /** A chain of seven calls, through 0 and 1 in turn, from the last board 0 to the first board 4. */
+    /** The longest chain: through 0 and 1 in turn, from the last board 0 to the first board 7. */
     private static void promise5LongChain() {
-        ClosExchange x = Due.network(5, 2, 2);
-        int[][] through0 = {{2, 0}, {4, 2}, {6, 4}, {8, 6}};
-        int[][] through1 = {{3, 3}, {5, 5}, {7, 7}, {0, 8}};
+        ClosExchange x = Due.network(8, 2, 2);
         x.takeOut(1);
-        for (int[] call : through0) {
-            Due.due("5: through 0", x.connect(call[0], call[1]), 0);
+        for (int board = 1; board < 8; board++) {
+            Due.due("5: through 0", x.connect(2 * board, 2 * board - 2), 0);
         }
         x.putBack(1);
         x.setChoiceRule(2);
-        for (int[] call : through1) {
-            Due.due("5: through 1", x.connect(call[0], call[1]), 1);
+        for (int board = 1; board < 7; board++) {
+            Due.due("5: through 1", x.connect(2 * board + 1, 2 * board + 1), 1);
         }
-        Due.due("5: wouldMove(1, 1)", x.wouldMove(1, 1), 7);
-        int[] chain = {0, 4, 1, 5, 2, 6, 3, NONE};
+        Due.due("5: connect(0, 15)", x.connect(0, 15), 1);
+        Due.due("5: wouldMove(1, 1)", x.wouldMove(1, 1), 13);
+        int[] chain = {0, 7, 1, 8, 2, 9, 3, 10, 4, 11, 5, 12, 6, NONE};
         for (int index = 0; index < chain.length; index++) {
             Due.due("5: chainCall(1, 1, " + index + ")", x.chainCall(1, 1, index), chain[index]);
         }
         Due.due("5: connect(1, 1)", x.connect(1, 1), 0);
-        int[] vias = {1, 1, 1, 1, 0, 0, 0, 1, 0};
+        int[] vias = {1, 1, 1, 1, 1, 1, 1, 0, 0, 0, 0, 0, 0, 1, 0};
         for (int call = 0; call < vias.length; call++) {
             Due.due("5: long chain, middleOf(" + call + ")", x.middleOf(call), vias[call]);
         }
-        Due.due("5: total(9)", x.total(9), 7);
+        Due.due("5: total(9)", x.total(9), 13);
         Due.due("5: freeForFirst(0)", x.freeForFirst(0), 0);
-        Due.due("5: freeForFirst(4)", x.freeForFirst(4), 1);
-        Due.due("5: freeForLast(4)", x.freeForLast(4), 1);
+        Due.due("5: freeForFirst(7)", x.freeForFirst(7), 1);
+        Due.due("5: freeForLast(7)", x.freeForLast(7), 1);
+    }
+
+    /** All 48 inlets have calls: every middle board is needed, and one more that goes out drops 8. */
+    private static void promises5To9FullNetwork() {
+        for (int rule = 0; rule < 6; rule++) {
+            ClosExchange x = Due.network(8, 6, 6);
+            x.setChoiceRule(rule % 3);
+            x.setPairRule(rule / 3);
+            for (int inlet = 0; inlet < 48; inlet++) {
+                int via = x.connect(inlet, inlet * 29 % 48);
+                Due.due("5: connect(" + inlet + ", ..), blocked", via < 0 || via > 5 ? 1 : 0, 0);
+            }
+            Due.due("5: total(5)", x.total(5), 48);
+            Due.due("9: leastMiddles()", x.leastMiddles(), 6);
+            Due.due("9: pack() drops", x.pack() < 0 ? 1 : 0, 0);
+            Due.due("9: total(5)", x.total(5), 48);
+            for (int middle = 0; middle < 6; middle++) {
+                Due.due("9: load(" + middle + ")", x.load(middle), 8);
+            }
+            for (int call = 0; call < 48; call++) {
+                int via = x.middleOf(call);
+                Due.due("9: onFirstLink", x.onFirstLink(call / 6, via), call);
+                Due.due("9: onLastLink", x.onLastLink(via, call * 29 % 48 / 6), call);
+            }
+            Due.due("7: takeOut(3)", x.takeOut(3), 8);
+            Due.due("7: total(5)", x.total(5), 40);
+            Due.due("7: undo()", x.undo(), 3);
+            Due.due("7: total(5)", x.total(5), 48);
+            Due.due("7: load(3)", x.load(3), 8);
+            x.setUp(8, 6, 8);
+            Due.due("7: total(7)", x.total(7), 48);
+        }
+    }
+
+    private static void promises5To9EachUndone() {
+        ClosExchange x = new ClosExchange();
+        x.setChoiceRule(2);
+        x.connect(4, 0);
+        x.connect(7, 5);
+        x.connect(8, 9);
+        x.disconnect(7);
+        x.undo();
+        checkUndone("6", x);
+        x.takeOut(1);
+        x.undo();
+        checkUndone("7", x);
+        x.pack();
+        x.undo();
+        checkUndone("9", x);
+        x.connect(0, 1);
+        x.undo();
+        checkUndone("5", x);
+        x.takeOut(1);
+        x.putBack(1);
+        x.undo();
+        Due.due("8: inService()", x.inService(), 5);
+    }
+
+    /** Calls 0, 1 and 2 go 1, 0, 0 and 2, 1, 1 and 2, 2, 3. */
+    private static void checkUndone(String promise, ClosExchange x) {
+        Due.due(promise + ", undone: total(5)", x.total(5), 3);
+        Due.due(promise + ", undone: inService()", x.inService(), 7);
+        for (int middle = 0; middle < 3; middle++) {
+            for (int board = 0; board < 4; board++) {
+                int first = board == 1 && middle == 0 ? 0 : board == 2 && middle > 0 ? middle : NONE;
+                int last = board == 0 && middle == 0 ? 0 : board == 1 && middle == 1 ? 1 : board == 3 && middle == 2 ? 2 : NONE;
+                Due.due(promise + ", undone: onFirstLink(" + board + ", " + middle + ")", x.onFirstLink(board, middle), first);
+                Due.due(promise + ", undone: onLastLink(" + middle + ", " + board + ")", x.onLastLink(middle, board), last);
+            }
+        }
     }
 
     private static void promise5Errors() {

@@ -7,6 +7,7 @@ public final class NetworkPromisesTest {
     public static void main(String[] args) {
         promise1();
         promise2Answers();
+        promise2OneLine();
         promise2WrongInputs();
         promise2WhatGoesOn();
         promise3();
@@ -61,6 +62,21 @@ public final class NetworkPromisesTest {
         Due.due("2: onLastLink(0, 7)", x.onLastLink(0, 7), NONE);
         Due.due("2: inletOf(1)", x.inletOf(1), UNKNOWN);
         Due.due("2: load(0)", x.load(0), 0);
+        Due.due("2: no call of before is left to be routed", x.takeOut(0), 0);
+        Due.due("2: total(8)", x.total(8), 0);
+        Due.due("2: total(9)", x.total(9), 0);
+        Due.due("2: connect(3, 3)", x.connect(3, 3), 1);
+        Due.due("2: pack()", x.pack(), 0);
+    }
+
+    private static void promise2OneLine() {
+        ClosExchange x = Due.network(8, 1, 2);
+        Due.due("2: connect(7, 5)", x.connect(7, 5), 0);
+        for (int board = 0; board < 8; board++) {
+            Due.due("2: freeForFirst(" + board + ")", x.freeForFirst(board), board == 7 ? 2 : 3);
+            Due.due("2: freeForLast(" + board + ")", x.freeForLast(board), board == 5 ? 2 : 3);
+        }
+        Due.due("2: connect(8, 0)", x.connect(8, 0), UNKNOWN);
     }
 
     private static void promise2WrongInputs() {
