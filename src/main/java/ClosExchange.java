@@ -51,7 +51,7 @@ public final class ClosExchange {
                 || !within(middles, 1, MOST_MIDDLES)) {
             return OUT_OF_RANGE;
         }
-        history.record(network);
+        history.push(network);
         return network.rebuild(boards, lines, middles);
     }
 
@@ -63,7 +63,7 @@ public final class ClosExchange {
         if (rule == previous) {
             return NONE;
         }
-        history.record(network);
+        history.push(network);
         network.choiceRule = rule;
         return previous;
     }
@@ -76,7 +76,7 @@ public final class ClosExchange {
         if (rule == previous) {
             return NONE;
         }
-        history.record(network);
+        history.push(network);
         network.pairRule = rule;
         return previous;
     }
@@ -156,7 +156,7 @@ public final class ClosExchange {
         if (!kept) {
             return NONE;
         }
-        history.record(network);
+        history.push(network);
         network.copyFrom(snapshot);
         return network.countCalls();
     }
@@ -319,7 +319,7 @@ public final class ClosExchange {
     /** Puts the state before a change into the history, unless the answer tells that nothing changed. */
     private int recorded(int answer) {
         if (answer >= 0) {
-            history.record(before);
+            history.push(before);
         }
         return answer;
     }
@@ -795,7 +795,7 @@ public final class ClosExchange {
             }
         }
 
-        void record(Network network) {
+        void push(Network network) {
             latest = (latest + 1) % HISTORY_ROOM;
             Network state = latestState();
             if (state != null) {

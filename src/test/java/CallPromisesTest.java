@@ -72,6 +72,8 @@ public final class CallPromisesTest {
             Due.due("5: pair rule 1, middleOf(" + call + ")", x.middleOf(call), others[call]);
         }
         Due.due("5: total(9)", x.total(9), 1);
+        Due.due("5: the call has left its link", x.onFirstLink(2, 1), NONE);
+        Due.due("5: onFirstLink(2, 2)", x.onFirstLink(2, 2), 3);
         Due.due("5: undo()", x.undo(), 3);
         Due.due("5: middleOf(3)", x.middleOf(3), 1);
         Due.due("5: total(9)", x.total(9), 0);
@@ -180,6 +182,11 @@ public final class CallPromisesTest {
         x.putBack(1);
         x.undo();
         Due.due("8: inService()", x.inService(), 5);
+        x = new ClosExchange();
+        x.connect(0, 0);
+        x.takeOut(0);
+        Due.due("7: undo()", x.undo(), 1);
+        Due.due("7: callOfInlet(0)", x.callOfInlet(0), 0);
     }
 
     /** Calls 0, 1 and 2 go 1, 0, 0 and 2, 1, 1 and 2, 2, 3. */

@@ -62,6 +62,12 @@ public final class NetworkPromisesTest {
         Due.due("2: onLastLink(0, 7)", x.onLastLink(0, 7), NONE);
         Due.due("2: inletOf(1)", x.inletOf(1), UNKNOWN);
         Due.due("2: load(0)", x.load(0), 0);
+        x.connect(13, 13);
+        x.connect(14, 14);
+        x.setUp(8, 6, 8);
+        x.connect(3, 3);
+        Due.due("2: no call of before is left to be packed", x.pack(), 0);
+        x.disconnect(3);
         Due.due("2: no call of before is left to be routed", x.takeOut(0), 0);
         Due.due("2: total(8)", x.total(8), 0);
         Due.due("2: total(9)", x.total(9), 0);
