@@ -2,15 +2,29 @@
 final class Due {
     private static int checked = 0;
     private static int wrong = 0;
+    private static String about = "";
 
     private Due() {
+    }
+
+    /** What the checks from here on are about; it stands ahead of what they print. */
+    static void about(String words) {
+        about = words + ": ";
     }
 
     static void due(String call, long got, long want) {
         checked++;
         if (got != want) {
             wrong++;
-            System.out.println(call + " answered " + got + ", due is " + want);
+            System.out.println(about + call + " answered " + got + ", due is " + want);
+        }
+    }
+
+    static void same(String what, String got, String want) {
+        checked++;
+        if (!got.equals(want)) {
+            wrong++;
+            System.out.println(about + what + " is\n" + got + "\ndue is\n" + want);
         }
     }
 
@@ -39,6 +53,26 @@ final class Due {
         x.clearText();
         type(x, text);
         return x.perform();
+    }
+
+    /**
+     * A network with calls, each told by its inlet, its outlet and its middle board, the greatest middle
+     * board first: each board is put back when its calls come, and so it is the least that is free.
+     */
+    static ClosExchange built(int boards, int lines, int middles, int[][] calls) {
+        ClosExchange x = network(boards, lines, middles);
+        for (int middle = 0; middle < middles; middle++) {
+            x.takeOut(middle);
+        }
+        int call = 0;
+        for (int middle = middles - 1; middle >= 0; middle--) {
+            x.putBack(middle);
+            for (; call < calls.length && calls[call][2] == middle; call++) {
+                due("the middle board of call " + call, x.connect(calls[call][0], calls[call][1]), middle);
+            }
+        }
+        due("calls that were built", call, calls.length);
+        return x;
     }
 
     /**
