@@ -18,6 +18,9 @@ final class BoardsSentences {
         linesAtFirst();
         leastAndGreatestNumberOfMiddleBoards();
         middleBoardsAtFirst();
+        theLeastNetwork();
+        theGreatestNetwork();
+        theGreatestNetworkFull();
         boardsAreNumberedFromZero();
         inletsAndOutlets();
         inletsThroughAllFirstBoards();
@@ -111,6 +114,92 @@ final class BoardsSentences {
         Due.due("total(2)", x.total(2), 3);
         Due.due("load(2)", x.load(2), 0);
         Due.due("load(3)", x.load(3), UNKNOWN);
+    }
+
+    private static void theLeastNetwork() {
+        Doc.says(SECTION, "(2 to 8 of each;");
+        ClosExchange x = Due.network(2, 1, 1);
+        Due.due("connect(1, 0)", x.connect(1, 0), 0);
+        Due.due("connect(0, 1)", x.connect(0, 1), 0);
+        Due.due("inletOf(0)", x.inletOf(0), 1);
+        Due.due("outletOf(1)", x.outletOf(1), 1);
+        Due.due("onFirstLink(1, 0)", x.onFirstLink(1, 0), 0);
+        Due.due("onLastLink(0, 1)", x.onLastLink(0, 1), 1);
+        Due.due("load(0)", x.load(0), 2);
+        Due.due("leastMiddles()", x.leastMiddles(), 1);
+        Due.due("pack()", x.pack(), 0);
+        Due.due("wouldDrop(0)", x.wouldDrop(0), 2);
+        Due.due("takeOut(0)", x.takeOut(0), 2);
+        Due.due("reason(0, 0)", x.reason(0, 0), 4);
+        Due.due("putBack(0)", x.putBack(0), 1);
+        Due.due("reachable(1)", x.reachable(1), 2);
+        Due.due("connect(2, 0)", x.connect(2, 0), UNKNOWN);
+        Due.due("load(1)", x.load(1), UNKNOWN);
+    }
+
+    /** The last inlet, the last outlet and the last middle board, in all that is done to a call. */
+    private static void theGreatestNetwork() {
+        Doc.says(SECTION, "middle boards (1 to 8;");
+        ClosExchange x = Due.built(8, 6, 8, new int[][] {{47, 47, 7}});
+        Due.due("inletOf(0)", x.inletOf(0), 47);
+        Due.due("outletOf(0)", x.outletOf(0), 47);
+        Due.due("middleOf(0)", x.middleOf(0), 7);
+        Due.due("callOfInlet(47)", x.callOfInlet(47), 0);
+        Due.due("callOfOutlet(47)", x.callOfOutlet(47), 0);
+        Due.due("onFirstLink(7, 7)", x.onFirstLink(7, 7), 0);
+        Due.due("onLastLink(7, 7)", x.onLastLink(7, 7), 0);
+        Due.due("load(7)", x.load(7), 1);
+        Due.due("leastMiddles()", x.leastMiddles(), 1);
+        Due.due("pack()", x.pack(), 1);
+        Due.due("middleOf(0)", x.middleOf(0), 0);
+        Due.due("undo()", x.undo(), 3);
+        Due.due("middleOf(0) after undo()", x.middleOf(0), 7);
+        for (int middle = 0; middle < 7; middle++) {
+            x.takeOut(middle);
+        }
+        Due.due("pack() with 7 alone", x.pack(), 0);
+        Due.due("middleOf(0)", x.middleOf(0), 7);
+        Due.due("wouldDrop(7)", x.wouldDrop(7), 1);
+        x.putBack(3);
+        Due.due("takeOut(7)", x.takeOut(7), 0);
+        Due.due("middleOf(0)", x.middleOf(0), 3);
+        Due.due("total(9)", x.total(9), 1);
+        Due.due("putBack(7)", x.putBack(7), 2);
+        x.takeOut(3);
+        x.keep();
+        Due.due("disconnect(47)", x.disconnect(47), 0);
+        Due.due("freeForFirst(7)", x.freeForFirst(7), 128);
+        Due.due("freeForLast(7)", x.freeForLast(7), 128);
+        Due.due("restore()", x.restore(), 1);
+        Due.due("middleOf(0) after restore()", x.middleOf(0), 7);
+    }
+
+    /** All 48 lines have calls: no middle board but 0 and 1 can do without another one. */
+    private static void theGreatestNetworkFull() {
+        Doc.says(SECTION, "(1 to 6;");
+        ClosExchange x = Due.network(8, 6, 8);
+        x.takeOut(0);
+        x.takeOut(1);
+        for (int inlet = 0; inlet < 48; inlet++) {
+            Due.due("connect(" + inlet + ", ..) is blocked", x.connect(inlet, inlet * 35 % 48) < 2 ? 1 : 0, 0);
+        }
+        Due.due("total(5)", x.total(5), 48);
+        Due.due("total(6)", x.total(6), 48);
+        Due.due("leastMiddles()", x.leastMiddles(), 6);
+        for (int middle = 2; middle < 8; middle++) {
+            Due.due("load(" + middle + ")", x.load(middle), 8);
+            Due.due("wouldDrop(" + middle + ")", x.wouldDrop(middle), 8);
+        }
+        x.putBack(0);
+        x.putBack(1);
+        Due.due("wouldDrop(7)", x.wouldDrop(7), 0);
+        Due.due("pack(), those through 6 and 7 among them", Math.min(x.pack(), 16), 16);
+        Due.due("total(5)", x.total(5), 48);
+        for (int middle = 0; middle < 8; middle++) {
+            Due.due("load(" + middle + ")", x.load(middle), middle < 6 ? 8 : 0);
+        }
+        Due.due("setUp(8, 6, 8)", x.setUp(8, 6, 8), 48);
+        Due.due("total(7)", x.total(7), 48);
     }
 
     private static void boardsAreNumberedFromZero() {

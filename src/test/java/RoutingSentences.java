@@ -1,3 +1,6 @@
+import java.util.ArrayList;
+import java.util.List;
+
 /** The sentences of "ROUTING". */
 final class RoutingSentences {
     private static final int BLOCKED = ClosExchange.BLOCKED;
@@ -18,6 +21,8 @@ final class RoutingSentences {
         pairRule1FewestCalls();
         pairRule1LeastP();
         pairRule1LeastQ();
+        pairsOfAllMiddleBoards();
+        pairsOfEightMiddleBoards();
         chainBegins();
         chainBehindACallThroughP();
         chainBehindACallThroughQ();
@@ -187,6 +192,79 @@ final class RoutingSentences {
         pair("all have one", 1, new int[][] {}, 1, 3, 1);
         pair("all have two", 1, new int[][] {{6, 11, 3}, {7, 12, 4}, {1, 1, 3}, {2, 6, 4}}, 1, 3, 2);
         pair("2, 3 and 2, 4 have one", 1, new int[][] {{6, 11, 3}, {7, 12, 4}}, 2, 3, 1);
+    }
+
+    /** All middle boards but two are out of service. */
+    private static void pairsOfAllMiddleBoards() {
+        Doc.says(SECTION, "p is free for f, and q is free for t.");
+        for (int k = 0; k < 128; k++) {
+            int p = k / 8 % 8;
+            int q = k % 8;
+            if (p == q) {
+                continue;
+            }
+            ClosExchange x = Due.network(8, 6, 8);
+            for (int middle = 0; middle < 8; middle++) {
+                x.takeOut(middle);
+            }
+            x.setChoiceRule(2);
+            x.setPairRule(k / 64);
+            x.putBack(q);
+            Due.due("connect(42, 0), through q", x.connect(42, 0), q);
+            x.putBack(p);
+            Due.due("connect(0, 42), through p of the least load", x.connect(0, 42), p);
+            Due.due("chainCall(47, 47, 0)", x.chainCall(47, 47, 0), 1);
+            Due.due("connect(47, 47), p is " + p, x.connect(47, 47), p);
+            Due.due("middleOf(1), q is " + q, x.middleOf(1), q);
+        }
+    }
+
+    /** Three of eight are free for f and three others for t, and of the nine chains one has one call, all others two. */
+    private static void pairsOfEightMiddleBoards() {
+        for (int k = 0; k < 18; k++) {
+            int leastP = k < 9 ? 0 : 5;
+            int leastQ = k < 9 ? 5 : 0;
+            int shortP = leastP + k % 9 / 3;
+            int shortQ = leastQ + k % 3;
+            Doc.says(SECTION, "By the pair rule 1, the pair is the one whose chain has the fewest calls,");
+            ClosExchange x = nineChains(leastP, leastQ, shortP, shortQ);
+            x.setPairRule(1);
+            int first = x.onLastLink(shortP, 7);
+            Due.due("wouldMove(47, 47)", x.wouldMove(47, 47), 1);
+            Due.due("connect(47, 47), p", x.connect(47, 47), shortP);
+            Due.due("middleOf(" + first + "), q", x.middleOf(first), shortQ);
+            Doc.says(SECTION, "By the pair rule 0 (at first), p and q are the ones with the least numbers.");
+            x = nineChains(leastP, leastQ, shortP, shortQ);
+            first = x.onLastLink(leastP, 7);
+            Due.due("connect(47, 47), p", x.connect(47, 47), leastP);
+            Due.due("middleOf(" + first + "), q", x.middleOf(first), leastQ);
+        }
+    }
+
+    /** In a network of 8 middle boards, the call through the i-th p goes from the first board 1 + i to t. */
+    private static ClosExchange nineChains(int leastP, int leastQ, int shortP, int shortQ) {
+        List<int[]> calls = new ArrayList<>();
+        for (int middle = 0; middle < 8; middle++) {
+            if (middle < leastP || middle >= leastP + 3) {
+                calls.add(new int[] {42 + calls.size() % 5, calls.size() % 5, middle});
+            }
+        }
+        for (int middle = 0, line = 0; middle < 8; middle++) {
+            if (middle < leastQ || middle >= leastQ + 3) {
+                boolean isP = middle >= leastP && middle < leastP + 3;
+                calls.add(new int[] {isP ? 6 * (1 + middle - leastP) + 5 : 6 * (2 + middle), 42 + line, middle});
+                line++;
+            }
+        }
+        for (int p = 0; p < 3; p++) {
+            for (int q = 0; q < 3; q++) {
+                if (leastP + p != shortP || leastQ + q != shortQ) {
+                    calls.add(new int[] {6 * (1 + p) + q, 6 * (1 + p) + q, leastQ + q});
+                }
+            }
+        }
+        calls.sort((one, other) -> other[2] - one[2]);
+        return Due.built(8, 6, 8, calls.toArray(new int[0][]));
     }
 
     /**
