@@ -428,6 +428,10 @@ final class ChangesSentences {
                 int via = y.middleOf(y.callOfInlet(inlet));
                 Due.due("the middle board from " + inlet, x.middleOf(x.callOfInlet(inlet)), via);
             }
+            for (int board = 0; board < x.total(0); board++) {
+                Due.due("freeForFirst(" + board + ")", x.freeForFirst(board), y.freeForFirst(board));
+                Due.due("freeForLast(" + board + ")", x.freeForLast(board), y.freeForLast(board));
+            }
         }
     }
 
@@ -469,6 +473,32 @@ final class ChangesSentences {
         Due.due("total(9)", x.total(9), 1);
         x.putBack(0);
         Due.due("they don't come back", x.total(5), 2);
+        for (int middle = 0; middle < 6; middle++) {
+            fullNetworkWithout(middle);
+        }
+    }
+
+    /** All links are taken, so all calls through the middle board are dropped and all others stay. */
+    private static void fullNetworkWithout(int middle) {
+        ClosExchange x = Due.network(8, 6, 6);
+        int[] vias = new int[48];
+        for (int inlet = 0; inlet < 48; inlet++) {
+            x.connect(inlet, inlet * 29 % 48);
+        }
+        for (int call = 0; call < 48; call++) {
+            vias[call] = x.middleOf(call);
+        }
+        Due.due("takeOut(" + middle + ") of a full network", x.takeOut(middle), 8);
+        for (int call = 0; call < 48; call++) {
+            boolean stays = vias[call] != middle;
+            Due.due("middleOf(" + call + ")", x.middleOf(call), stays ? vias[call] : UNKNOWN);
+            Due.due("onFirstLink of call " + call, x.onFirstLink(call / 6, vias[call]), stays ? call : NONE);
+            Due.due("onLastLink of call " + call, x.onLastLink(vias[call], call * 29 % 48 / 6), stays ? call : NONE);
+        }
+        for (int board = 0; board < 8; board++) {
+            Due.due("freeForFirst(" + board + ")", x.freeForFirst(board), 0);
+            Due.due("freeForLast(" + board + ")", x.freeForLast(board), 0);
+        }
     }
 
     private static void promise7IsAChange() {
