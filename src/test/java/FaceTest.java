@@ -4,7 +4,7 @@ import java.lang.reflect.Method;
 import java.lang.reflect.Modifier;
 import java.util.TreeSet;
 
-/** The class shows the document's face, and nothing else. */
+/** The class shows the document's face, and nothing else; its classes have the form of LANGUAGE.md. */
 public final class FaceTest {
     private static final String[] CONSTANTS = {"UNKNOWN -1", "OUT_OF_RANGE -2", "BUSY -3", "BLOCKED -4", "FULL -5", "NONE -6"};
     private static final String[] METHODS = {"setUp 3", "setChoiceRule 1", "setPairRule 1", "connect 2", "disconnect 1",
@@ -12,6 +12,7 @@ public final class FaceTest {
         "callOfInlet 1", "callOfOutlet 1", "inletOf 1", "outletOf 1", "middleOf 1", "onFirstLink 2", "onLastLink 2",
         "load 1", "freeForFirst 1", "freeForLast 1", "inService 0", "total 1", "wouldMove 2", "chainCall 3", "reason 2",
         "leastMiddles 0", "wouldDrop 1", "reachable 1"};
+    private static final int MOST_FIELDS = 20;
 
     public static void main(String[] args) throws IllegalAccessException {
         Class<?> face = ClosExchange.class;
@@ -22,8 +23,34 @@ public final class FaceTest {
         for (Class<?> inside : face.getDeclaredClasses()) {
             Due.due(inside + " is static", bit(Modifier.isStatic(inside.getModifiers())), 1);
             Due.due(inside + " is public", bit(Modifier.isPublic(inside.getModifiers())), 0);
+            form(inside);
         }
+        form(face);
         Due.end("FaceTest");
+    }
+
+    /** What LANGUAGE.md asks of each class: its static fields, how many others it has, and its methods' names. */
+    private static void form(Class<?> type) {
+        int fields = 0;
+        for (Field field : type.getDeclaredFields()) {
+            boolean isStatic = Modifier.isStatic(field.getModifiers());
+            Due.due(field + " is final, if it is static", bit(isStatic && !Modifier.isFinal(field.getModifiers())), 0);
+            fields += isStatic ? 0 : 1;
+        }
+        Due.due(type + " has " + fields + " fields", bit(fields <= MOST_FIELDS), 1);
+        for (Method method : type.getDeclaredMethods()) {
+            boolean hidden = !Modifier.isPublic(method.getModifiers());
+            Due.due(method + " bears the name of a public one", bit(hidden && isPublicName(method.getName())), 0);
+        }
+    }
+
+    private static boolean isPublicName(String name) {
+        for (String method : METHODS) {
+            if (method.startsWith(name + " ")) {
+                return true;
+            }
+        }
+        return false;
     }
 
     private static int bit(boolean is) {
