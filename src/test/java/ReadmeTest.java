@@ -2,6 +2,7 @@ import java.io.IOException;
 import java.lang.reflect.Method;
 import java.lang.reflect.Modifier;
 import java.nio.charset.StandardCharsets;
+import java.nio.file.FileVisitOption;
 import java.nio.file.Files;
 import java.nio.file.Path;
 import java.nio.file.StandardCopyOption;
@@ -192,7 +193,7 @@ public final class ReadmeTest {
     }
 
     private static void copy(Path from, Path to) throws IOException {
-        try (Stream<Path> all = Files.walk(from)) {
+        try (Stream<Path> all = Files.walk(from, FileVisitOption.FOLLOW_LINKS)) {
             for (Path path : all.toList()) {
                 Path place = to.resolve(from.relativize(path).toString());
                 if (Files.isDirectory(path)) {
